@@ -56,14 +56,17 @@ public final class PromiseTests {
 
     private static void dueThrow(String what, Class<?> want, Call call) {
         Class<?> got = null;
+        String thrower = "DialectAtlas";
         try {
             call.answer();
         } catch (RuntimeException thrown) {
             got = thrown.getClass();
+            thrower = thrown.getStackTrace()[0].getClassName();
         }
-        if (got != want) {
+        // An exception of the library, even of the due class, is not the atlas's own word.
+        if (got != want || !thrower.equals("DialectAtlas")) {
             wrong++;
-            System.out.println(what + " threw " + got + ", due is " + want);
+            System.out.println(what + " threw " + got + " in " + thrower + ", due is " + want);
         }
     }
 
@@ -425,7 +428,9 @@ public final class PromiseTests {
         due("turned round", farFromRoot(atlas, 3, 2, 1), 2);
         due("moved by one", farFromRoot(atlas, 2, 3, 1), 2);
         due("much longer", farFromRoot(atlas, 0, 1, 0, 2, 0, 3, 0, 0), 5);
-        due("one sound", farFromRoot(atlas, 3), 2);
+        due("the first sound alone", farFromRoot(atlas, 1), 2);
+        due("a sound twice", farFromRoot(atlas, 1, 1, 2, 2, 3, 3), 3);
+        due("the last sound alone", farFromRoot(atlas, 3), 2);
         atlas.rule(3, 2, ANY, 5, 5, 101);
         due("a rule of a later year", atlas.far(0), 2);
         atlas.rule(3, 2, ANY, 4, 4, 0);
@@ -646,6 +651,7 @@ public final class PromiseTests {
         due("none told without a copy", atlas.tell(2), 0);
         due("ten told", atlas.tell(1), 10);
         due("the first school still owes", atlas.owed(0), 5);
+        testToldSchoolLearnsNothing();
         dueThrow("tell 3", INDEX, () -> atlas.tell(3));
         dueThrow("tell -1", INDEX, () -> atlas.tell(-1));
         dueThrow("owed 3", INDEX, () -> atlas.owed(3));
@@ -654,6 +660,18 @@ public final class PromiseTests {
             dueThrow("tell", INDEX, () -> atlas.tell(far));
             dueThrow("owed", INDEX, () -> atlas.owed(far));
         }
+    }
+
+    private static void testToldSchoolLearnsNothing() {
+        DialectAtlas atlas = new DialectAtlas();
+        tell(atlas, 0, 0, 0, 1);
+        atlas.copy(0);
+        tell(atlas, 1, 0, 0, 1);
+        due("none forgotten", atlas.tell(0), 0);
+        atlas.forget(1);
+        due("it does not know what came after its copy", atlas.owed(0), 0);
+        atlas.forget(0);
+        due("it knows what was there then", atlas.tell(0), 1);
     }
 
     // ---- promise 18
