@@ -55,8 +55,14 @@ final class Check {
     }
 
     private static String tellTest(Method method, Holds holds) {
-        String where = holds.of() == Holds.TERMS ? "Terms" : "Promise " + holds.of();
-        return where + ", " + method.getName() + ", \"" + holds.says() + "\"";
+        return tellPart(holds.of()) + ", " + method.getName() + ", \"" + holds.says() + "\"";
+    }
+
+    private static String tellPart(int part) {
+        if (part == Holds.WHAT_IT_IS) {
+            return "What it is";
+        }
+        return part == Holds.TERMS ? "Terms" : "Promise " + part;
     }
 
     private static void runOne(Method method) {

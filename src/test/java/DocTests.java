@@ -10,25 +10,32 @@ import java.util.Set;
 import java.util.TreeMap;
 
 /**
- * Holds the tests against the document: each sentence of its promises and of 'Terms' has a test, and
- * what a test says that it holds to stands there.
+ * Holds the tests against the document: each sentence of its promises, of 'Terms' and of 'What it is'
+ * has a test, and what a test says that it holds to stands there.
  */
 public final class DocTests {
     private static final Path DOC = Path.of("../shared/DOC.md");
-    private static final int PROMISES = 19;
+    /** 19 promises, 'Terms' and 'What it is'. */
+    private static final int PARTS = 21;
+    /** In place of a promise's number: the part says nothing that a call could show. */
+    private static final int OTHER = -2;
     private static final List<Class<?>> TESTS = List.of(TermsTests.class, RefusalTests.class,
         FormTests.class, RuleTests.class, MapTests.class, ForgettingTests.class);
-    /** Sentences of 'Terms' that ask for nothing by themselves. */
+    /** Sentences of 'Terms' and 'What it is' that ask for nothing by themselves. */
     private static final List<String> NOT_ASKING = List.of("Forms.", "Interviews.", "Roots and rules.",
         "What rules rest on.", "Maps.", "Forgetting.", "Exceptions.",
         "The calls enter interviews, roots and rules, forget, copy and quote, and ask for forms, lines and"
             + " what rests on whom.",
-        "IllegalStateException: as the method says.");
+        "IllegalStateException: as the method says.",
+        "A dialect atlas: interviews by place, year and informant with forms of sounds, rules of sound"
+            + " change by place and year that lead from roots to forms, how far told forms are from them,"
+            + " maps with lines between the forms of places, informants who have the right to be"
+            + " forgotten, copies at schools that must forget, too, and quotes that stay by number.");
 
     public static void main(String[] args) throws IOException {
         Map<Integer, Set<String>> sentences = readSentences(Files.readAllLines(DOC));
         // Fewer would mean that the document is not read as it is written.
-        int wrong = Math.max(0, PROMISES + 1 - sentences.size());
+        int wrong = Math.max(0, PARTS - sentences.size());
         for (Class<?> tests : TESTS) {
             for (Method test : tests.getDeclaredMethods()) {
                 wrong += countWrongQuotes(test, sentences);
@@ -43,15 +50,15 @@ public final class DocTests {
 
     // ---- the document
 
-    /** By the promise's number, 0 being that of 'Terms': the sentences there. */
+    /** By the promise's number, or what stands in place of one: the sentences there. */
     private static Map<Integer, Set<String>> readSentences(List<String> lines) {
         Map<Integer, Set<String>> sentences = new TreeMap<>();
-        int promise = -1;
+        int promise = OTHER;
         for (String line : lines) {
             if (line.startsWith("## ")) {
                 promise = numberOf(line);
-            } else if (promise >= 0 && !line.isBlank()) {
-                List<String> found = promise == Holds.TERMS ? splitText(line) : List.of(cutHead(line));
+            } else if (promise != OTHER && !line.isBlank()) {
+                List<String> found = promise <= Holds.TERMS ? splitText(line) : List.of(cutHead(line));
                 sentences.computeIfAbsent(promise, p -> new LinkedHashSet<>()).addAll(found);
             }
         }
@@ -59,10 +66,13 @@ public final class DocTests {
     }
 
     private static int numberOf(String heading) {
+        if (heading.equals("## What it is")) {
+            return Holds.WHAT_IT_IS;
+        }
         if (heading.equals("## Terms")) {
             return Holds.TERMS;
         }
-        return heading.startsWith("## Promise ") ? Integer.parseInt(heading.split("[ :]+")[2]) : -1;
+        return heading.startsWith("## Promise ") ? Integer.parseInt(heading.split("[ :]+")[2]) : OTHER;
     }
 
     /** Leaves out a method's head, which FaceTests look at. */

@@ -1,5 +1,7 @@
 import java.io.IOException;
+import java.lang.reflect.Field;
 import java.lang.reflect.Member;
+import java.lang.reflect.Method;
 import java.lang.reflect.Modifier;
 import java.nio.file.Files;
 import java.nio.file.Path;
@@ -11,7 +13,7 @@ import java.util.TreeSet;
 import java.util.regex.Matcher;
 import java.util.regex.Pattern;
 
-/** The public face, and those rules of LANGUAGE.md that the source's words show. */
+/** The public face, and those rules of LANGUAGE.md that the source's words or the class itself show. */
 public final class FaceTests {
     private static final String SOURCE = "src/main/java/DialectAtlas.java";
     private static int wrong = 0;
@@ -19,6 +21,7 @@ public final class FaceTests {
     public static void main(String[] args) throws IOException {
         testFace();
         testConstants();
+        testClasses();
         testSource(Files.readString(Path.of(SOURCE)));
         System.out.println(wrong == 0 ? "the face is as due" : wrong + " answers are not as due");
         if (wrong != 0) {
@@ -80,6 +83,40 @@ public final class FaceTests {
         due("LOST", DialectAtlas.LOST, -1);
         due("END", DialectAtlas.END, 8);
         due("ANY", DialectAtlas.ANY, 9);
+    }
+
+    private static void testClasses() {
+        List<Class<?>> classes = new ArrayList<>(List.of(DialectAtlas.class));
+        classes.addAll(Arrays.asList(DialectAtlas.class.getDeclaredClasses()));
+        due("at most 12 classes", classes.size() <= 12, true);
+        for (Class<?> one : classes) {
+            int held = 0;
+            for (Field field : one.getDeclaredFields()) {
+                boolean shared = Modifier.isStatic(field.getModifiers());
+                due(field + " is final, if static", !shared || Modifier.isFinal(field.getModifiers()), true);
+                held += shared ? 0 : 1;
+            }
+            due(one + " holds at most 20 fields", held <= 20, true);
+            for (Method method : one.getDeclaredMethods()) {
+                due(method + " takes at most 7", method.getParameterCount() <= 7, true);
+                due(method + " is private, or of the face", isPrivateOrOfTheFace(method), true);
+            }
+            due(one + " is the face, or closed and static", one == DialectAtlas.class || isClosed(one), true);
+        }
+    }
+
+    private static boolean isClosed(Class<?> inner) {
+        int open = Modifier.PUBLIC | Modifier.PROTECTED;
+        return (inner.getModifiers() & open) == 0 && Modifier.isStatic(inner.getModifiers());
+    }
+
+    /** A private method may not bear the name of a public one. */
+    private static boolean isPrivateOrOfTheFace(Method method) {
+        if (!Modifier.isPrivate(method.getModifiers())) {
+            return method.getDeclaringClass() == DialectAtlas.class;
+        }
+        return Arrays.stream(DialectAtlas.class.getMethods())
+            .noneMatch(open -> open.getName().equals(method.getName()));
     }
 
     private static void testSource(String source) {

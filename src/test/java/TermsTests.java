@@ -1,7 +1,13 @@
+import java.util.ArrayList;
 import java.util.Arrays;
+import java.util.HashMap;
+import java.util.List;
+import java.util.Map;
 
-/** The section 'Terms', but for its exceptions: a test or more for each sentence. */
+/** 'What it is', and 'Terms' but for its exceptions: a test or more for each sentence. */
 public final class TermsTests {
+    private static final String CALLS = "An object is used for at most 512 calls after it has been made;"
+        + " what later calls answer is free.";
     private static final String RANGES = "There are the places 0 to 9 in a row, the informants 0 to 7,"
         + " the words 0 to 3, the schools 0 to 2, and the sounds 0 to 7.";
     private static final String RULE = "A rule has a sound, what becomes of it (another sound, or LOST),"
@@ -31,6 +37,47 @@ public final class TermsTests {
 
     public static void main(String[] args) {
         Check.runAll(TermsTests.class);
+    }
+
+    // ---- what it is
+
+    @Holds(of = Holds.WHAT_IT_IS, says = CALLS)
+    static void theLastCallIsAnsweredAsAnyOther() {
+        DialectAtlas atlas = Check.atlasWith(40);
+        int calls = 3 * 40;
+        Check.root(atlas, 3, 7, 7);
+        Check.everywhere(atlas, 7, 4, Check.END);
+        calls += 4;
+        while (calls < 511) {
+            Check.due("call " + calls, atlas.far(39), 0);
+            calls++;
+        }
+        Check.due("the 512th call", atlas.far(39), 0);
+    }
+
+    @Holds(of = Holds.WHAT_IT_IS, says = CALLS)
+    static void everySecondCallCanBeARoot() {
+        DialectAtlas atlas = new DialectAtlas();
+        int before = Check.NONE;
+        for (int i = 0; i < 256; i++) {
+            Check.due("the sound " + i, atlas.sound(i % 7), 1);
+            Check.due("the root " + i, atlas.setRoot(2), before);
+            before = i % 7 + 1;
+        }
+    }
+
+    @Holds(of = Holds.WHAT_IT_IS, says = CALLS)
+    static void refusedCallsUseNothingUp() {
+        DialectAtlas atlas = new DialectAtlas();
+        for (int i = 0; i < 102; i++) {
+            Check.refuses("sound", Check.INDEX, () -> atlas.sound(8));
+            Check.refuses("interview", Check.STATE, () -> atlas.interview(0, 0, 0, 0));
+            Check.refuses("rule", Check.ARGUMENT, () -> atlas.rule(0, 0, 0, 0, 0, 0));
+            Check.refuses("quote", Check.INDEX, () -> atlas.quote(0));
+            Check.refuses("expected", Check.ARGUMENT, () -> atlas.expected(0, 0, 301));
+        }
+        Check.due("the 511th call", atlas.sound(5), 1);
+        Check.due("the 512th call", atlas.interview(0, 0, 0, 0), 0);
     }
 
     // ---- ranges
@@ -495,6 +542,62 @@ public final class TermsTests {
         Check.due("one to eight", Check.farFrom(Check.form(6), 7, 7, 7, 7, 7, 7, 7, 7), 8);
         Check.due("eight to one", Check.farFrom(Check.form(7, 7, 7, 7, 7, 7, 7, 7), 6), 8);
         Check.due("four", Check.farFrom(Check.form(0, 1, 0, 1, 0, 1, 0, 1), 1, 1, 1, 1, 1, 1, 1, 1), 4);
+    }
+
+    @Holds(of = Holds.TERMS, says = STEPS)
+    static void noFewerStepsAreFoundByTryingAll() {
+        List<String> rows = rowsOf(4);
+        for (String root : rows) {
+            Map<String, Integer> steps = stepsByTryingAll(root);
+            for (String told : rows) {
+                int far = Check.farFrom(soundsOf(root), soundsOf(told));
+                Check.due("from " + root + " to " + told, far, steps.get(told));
+            }
+        }
+    }
+
+    /** All rows of 1 to so many of the sounds 0 and 1. */
+    private static List<String> rowsOf(int most) {
+        List<String> rows = new ArrayList<>(List.of("0", "1"));
+        for (int i = 0; rows.get(i).length() < most; i++) {
+            rows.add(rows.get(i) + "0");
+            rows.add(rows.get(i) + "1");
+        }
+        return rows;
+    }
+
+    private static int[] soundsOf(String row) {
+        return row.chars().map(sound -> sound - '0').toArray();
+    }
+
+    /** How many steps lead from a row to each other one: those of one step come first, then two, .. */
+    private static Map<String, Integer> stepsByTryingAll(String root) {
+        Map<String, Integer> steps = new HashMap<>(Map.of(root, 0));
+        List<String> reached = new ArrayList<>(List.of(root));
+        for (int i = 0; i < reached.size(); i++) {
+            String row = reached.get(i);
+            for (String next : oneStepFrom(row)) {
+                if (next.length() <= 5 && !steps.containsKey(next)) {
+                    steps.put(next, steps.get(row) + 1);
+                    reached.add(next);
+                }
+            }
+        }
+        return steps;
+    }
+
+    private static List<String> oneStepFrom(String row) {
+        List<String> next = new ArrayList<>();
+        for (int at = 0; at <= row.length(); at++) {
+            String ahead = row.substring(0, at);
+            String rest = row.substring(at);
+            next.addAll(List.of(ahead + "0" + rest, ahead + "1" + rest));
+            if (!rest.isEmpty()) {
+                String behind = rest.substring(1);
+                next.addAll(List.of(ahead + behind, ahead + "0" + behind, ahead + "1" + behind));
+            }
+        }
+        return next;
     }
 
     // ---- what rules rest on
